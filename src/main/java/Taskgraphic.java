@@ -848,24 +848,28 @@ public final class Taskgraphic {
         private final Ints inOrder = new Ints(MOST_NODES);
         private final Ints sizes = new Ints(MOST_NODES);
         private int count;
+        private int members;
         private int filled;
         int room;
 
         boolean holds(int node) {
-            return placeOf(node) < count;
+            return has(members, node);
         }
 
         void empty() {
             count = 0;
+            members = 0;
             filled = 0;
         }
 
         void makeLatest(int node) {
-            int place = placeOf(node);
-            if (place < count) {
-                int size = sizes.at(place);
-                remove(place);
-                append(node, size);
+            for (int place = 0; place < count; place++) {
+                if (inOrder.at(place) == node) {
+                    int size = sizes.at(place);
+                    remove(place);
+                    append(node, size);
+                    return;
+                }
             }
         }
 
@@ -886,23 +890,16 @@ public final class Taskgraphic {
             return left;
         }
 
-        private int placeOf(int node) {
-            for (int place = 0; place < count; place++) {
-                if (inOrder.at(place) == node) {
-                    return place;
-                }
-            }
-            return count;
-        }
-
         private void append(int node, int size) {
             inOrder.set(count, node);
             sizes.set(count, size);
+            members = with(members, node);
             filled += size;
             count++;
         }
 
         private void remove(int place) {
+            members &= ~with(0, inOrder.at(place));
             filled -= sizes.at(place);
             count--;
             for (int to = place; to < count; to++) {
@@ -1174,7 +1171,6 @@ public final class Taskgraphic {
 
         void begin(int workersOfRun) {
             count = 0;
-            ticks = 0;
             spilled = 0;
             crewSize = workersOfRun;
         }

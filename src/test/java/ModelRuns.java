@@ -604,6 +604,7 @@ public final class ModelRuns {
         new Style("caching", 1, 1, 6, 12, 2),
         new Style("running", 2, 1, 3, 14, 2),
         new Style("holding", 8, 12, 1, 1, 4),
+        new Style("copying", 1, 0, 6, 6, 1),
     };
 
     private static final int[] EDGES = {0, 1, -1, 2, 3, 4, 5, 7, 8, 9, 10, 12, 13, 14, 20, 299, 300, 301, 1000, 1001,
@@ -735,6 +736,10 @@ public final class ModelRuns {
         for (int m = 0; m < more; m++) {
             sayAnyOf(new String[] {"map", "filter", "union", "group", "join", "join"});
         }
+        if (style.name.equals("copying")) {
+            sayTasksOfUnlikeWork();
+            return;
+        }
         if (random.nextBoolean()) {
             for (int w = 0; w < 4; w++) {
                 say("setSlowness", w, 1 + upTo(8), 0);
@@ -744,6 +749,24 @@ public final class ModelRuns {
             for (int n = 0; n < model.nodes.size(); n++) {
                 say("mark", n, upTo(1), 0);
             }
+        }
+    }
+
+    /** Groups whose shares are uneven, on four workers of unlike slowness, so that copies are many. */
+    private void sayTasksOfUnlikeWork() {
+        say("group", aNode(), upTo(3), 4);
+        say("group", aLateNode(), upTo(3), 4);
+        say("union", model.nodes.size() - 1, model.nodes.size() - 2, 0);
+        say("setMemory", 0, 0, 0);
+        for (int again = 0; again < 40; again++) {
+            for (int w = 0; w < 4; w++) {
+                say("setSlowness", w, random.nextBoolean() ? 1 + upTo(8) : 1 + upTo(1), 0);
+            }
+            say("setWorkers", 3 + upTo(1), 0, 0);
+            say("run", aLateNode(), 0, 0);
+            say("ticks", 0, 0, 0);
+            say("share", 0, 0, 0);
+            say("attempts", 0, 0, 0);
         }
     }
 
