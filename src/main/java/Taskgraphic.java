@@ -561,7 +561,7 @@ public final class Taskgraphic {
         }
     }
 
-    /** What a node was told when it was made, and the rows and the mark that it was given since. */
+    /** What a node was told when it was made, what it was given since, and room for what it holds. */
     private static final class Node {
         final Kind kind;
         final int first;
@@ -569,6 +569,9 @@ public final class Taskgraphic {
         final int bound;
         final int width;
         final Rows told;
+        /** A node never holds more rows than its bound. */
+        final Rows spread;
+        final Rows inOnePlace;
         int toldPartitions;
         int how;
         int constant;
@@ -585,6 +588,8 @@ public final class Taskgraphic {
             this.bound = bound;
             this.width = width;
             told = new Rows(kind == Kind.SOURCE ? MOST_PUT : 0);
+            spread = new Rows(bound);
+            inOnePlace = new Rows(bound);
         }
 
         int newKey(int key, int value) {
@@ -653,22 +658,18 @@ public final class Taskgraphic {
     private static final class Holding {
         private final Graph graph;
         private final boolean inPlace;
-        private final Rows[] held = new Rows[MOST_NODES];
-        private final Rows nothing = new Rows(0);
         private final Rows byKey = new Rows(MOST_ROWS);
         private int fresh;
 
         Holding(Graph graph, boolean inPlace) {
             this.graph = graph;
             this.inPlace = inPlace;
-            for (int node = 0; node < held.length; node++) {
-                held[node] = new Rows(MOST_ROWS);
-            }
         }
 
         /** What a node holds, if it is fresh. */
         Rows of(int node) {
-            return node >= 0 && node < held.length ? held[node] : nothing;
+            Node holder = graph.at(node);
+            return inPlace ? holder.inOnePlace : holder.spread;
         }
 
         void forgetAll() {

@@ -143,12 +143,12 @@ public final class LanguageRules {
         }
     }
 
-    /** Every index and every length stands behind a test of its own, in the two places that have any. */
+    /** Every index and every length stands behind a test of its own, in the one class that has any. */
     private static void theArrays(String source) {
         Matcher index = Pattern.compile("\\w+\\[[^\\]]+\\]").matcher(source);
         while (index.find()) {
-            demand(index.group().matches("cells\\[place\\]|int\\[Math\\.max\\(0, length\\)\\]|held\\[node\\]"
-                + "|Rows\\[MOST_NODES\\]"), index.group() + " is one of the tested ones");
+            demand(index.group().matches("cells\\[place\\]|int\\[Math\\.max\\(0, length\\)\\]"),
+                index.group() + " is one of the tested ones");
         }
         demand(!Pattern.compile("[^/*]/[^/*]").matcher(source.replace("/ 2", "").replace("/ (float) most", "")
             .replaceAll("(?s)/\\*.*?\\*/", "")).find(), "nothing is divided but by 2, and by what is above 0");

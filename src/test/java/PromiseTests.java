@@ -1,106 +1,5 @@
 /** The promises of the document one by one, with answers that were reckoned by hand. */
-public final class PromiseTests {
-    private static final Class<?> BOUNDS = IndexOutOfBoundsException.class;
-    private static final Class<?> ARGUMENT = IllegalArgumentException.class;
-    private static final Class<?> STATE = IllegalStateException.class;
-
-    private static final int MIN = Integer.MIN_VALUE;
-    private static final int MAX = Integer.MAX_VALUE;
-
-    private static int promise;
-    private static int wrong;
-
-    private static void due(String call, Object got, Object want) {
-        if (!want.equals(got)) {
-            wrong++;
-            System.out.println("promise " + promise + ": " + call + " answered " + got + ", due is " + want);
-        }
-    }
-
-    private static void throwing(String call, Class<?> want, Runnable body) {
-        Object got = "nothing";
-        try {
-            body.run();
-        } catch (RuntimeException e) {
-            got = e.getClass();
-        }
-        if (got != want) {
-            wrong++;
-            System.out.println("promise " + promise + ": " + call + " threw " + got + ", due is " + want);
-        }
-    }
-
-    /** Makes a source; the rows are keys and values in turn. */
-    private static int source(Taskgraphic x, int partitions, int... rows) {
-        int node = x.source(partitions);
-        for (int i = 0; i + 1 < rows.length; i += 2) {
-            x.put(node, rows[i], rows[i + 1]);
-        }
-        return node;
-    }
-
-    private static int sourceOfKeys(Taskgraphic x, int partitions, int... keys) {
-        int node = x.source(partitions);
-        for (int key : keys) {
-            x.put(node, key, 0);
-        }
-        return node;
-    }
-
-    private static Taskgraphic with14Nodes() {
-        Taskgraphic x = new Taskgraphic();
-        for (int i = 0; i < 14; i++) {
-            x.source(1);
-        }
-        return x;
-    }
-
-    /** What a node holds: 0:10 1:5 | 2:7 are two partitions, of two rows and one. */
-    private static String held(Taskgraphic x, int node) {
-        StringBuilder all = new StringBuilder();
-        for (int part = 0; part < x.partitions(node); part++) {
-            all.append(part == 0 ? "" : "|");
-            for (int place = 0; place < x.rowsIn(node, part); place++) {
-                all.append(place == 0 ? "" : " ");
-                all.append(x.keyAt(node, part, place)).append(':').append(x.valueAt(node, part, place));
-            }
-        }
-        return all.toString();
-    }
-
-    private static String outputs(Taskgraphic x, int node) {
-        StringBuilder all = new StringBuilder();
-        for (int stage = 0; stage < x.stages(node); stage++) {
-            all.append(stage == 0 ? "" : " ").append(x.outputOf(node, stage));
-        }
-        return all.toString();
-    }
-
-    /** The attempts of the latest run: node.partition worker start-end, with a star at a copy. */
-    private static String attempts(Taskgraphic x) {
-        StringBuilder all = new StringBuilder();
-        for (int a = 0; a < x.attempts(); a++) {
-            all.append(a == 0 ? "" : ", ").append(x.nodeOf(a)).append('.').append(x.partitionOf(a));
-            all.append(" w").append(x.workerOf(a)).append(' ').append(x.startOf(a)).append('-').append(x.endOf(a));
-            all.append(x.isCopy(a) ? "*" : "");
-        }
-        return all.toString();
-    }
-
-    private static String cached(Taskgraphic x) {
-        StringBuilder all = new StringBuilder();
-        for (int node = 0; node < x.nodes(); node++) {
-            all.append(x.isCached(node) ? (all.length() == 0 ? "" : " ") + node : "");
-        }
-        return all.toString();
-    }
-
-    private static void slowness(Taskgraphic x, int... each) {
-        for (int worker = 0; worker < each.length; worker++) {
-            x.setSlowness(worker, each[worker]);
-        }
-    }
-
+public final class PromiseTests extends Testing {
     // ---- nodes
 
     private static void aNewObject() {
@@ -1034,22 +933,14 @@ public final class PromiseTests {
             PromiseTests::partitionOf, PromiseTests::workerOf, PromiseTests::startOf, PromiseTests::endOf,
             PromiseTests::isCopy, PromiseTests::share,
         };
-        for (promise = 1; promise <= tests.length; promise++) {
-            try {
-                tests[promise - 1].run();
-            } catch (RuntimeException e) {
-                wrong++;
-                System.out.println("promise " + promise + ": a call threw " + e);
-            }
+        for (int promise = 1; promise <= tests.length; promise++) {
+            testing("promise " + promise, tests[promise - 1]);
         }
         due("promises tested", tests.length, 37);
     }
 
     public static void main(String[] args) {
         all();
-        System.out.println(wrong == 0 ? "all promises hold" : wrong + " answers are not as due");
-        if (wrong != 0) {
-            System.exit(1);
-        }
+        end("all promises hold");
     }
 }
