@@ -289,6 +289,15 @@ final class HoldingBoundaries extends Sentences {
             due("of no row left", x.digestInPlace(x.filter(3, 1, 0)), 0);
             due("of a group of no row", x.digestInPlace(x.group(4, 3, 4)), 0);
         });
+        holds(17, "Returns the same", () -> {
+            Taskgraphic x = new Taskgraphic();
+            sourceOf(x, 1, 1);
+            x.map(0, 0, 3);
+            due("of a row", x.digestInPlace(1), 9);
+            x.put(0, 1, 0);
+            due("behind a put", x.digestInPlace(1), 9 + 34 * 34);
+            due("digest(1)", x.digest(1), 9 + 34 * 34);
+        });
         holds(17, "What a node holds does not depend on any of that.", () -> {
             Taskgraphic x = busy();
             for (int limit : new int[] {0, 3, 4, 1000}) {

@@ -41,10 +41,8 @@ final class NodeBoundaries extends Sentences {
             Taskgraphic x = new Taskgraphic();
             x.source(1);
             x.put(0, 1, 5);
-            for (int call = 3; call <= 509; call += 3) {
-                due("setMemory, call " + call, x.setMemory(1000 - call % 2), call == 3 ? 20 : 1000 - (call - 3) % 2);
-                due("run, call " + (call + 1), x.run(0), 2);
-                due("attempts, call " + (call + 2), x.attempts(), 1);
+            for (int call = 3; call < 512; call++) {
+                due("call " + call, call % 2 == 0 ? x.attempts() : x.run(0) - 1, 1);
             }
             due("digest, the 512th call", x.digest(0), 36 * 36);
         });
@@ -636,6 +634,9 @@ final class NodeBoundaries extends Sentences {
                 due("told 4", held(x, x.join(0, 1, 4)), MIN + ":54|" + fives + "||-1:46 " + MAX + ":65");
                 int none = x.source(4);
                 due("the first without rows", held(x, x.join(none, 1, 3)), "||");
+                int zeros = sourceOfKeys(x, 1, 0, 0, 7, 0, 0, 0);
+                due("the key 0 in the second alone", held(x, x.join(0, zeros, 2)), "|");
+                due("the key 0 in both", held(x, x.join(sourceOfKeys(x, 1, 0), zeros, 2)), "0:0 0:0 0:0 0:0 0:0|");
                 due("no key in both", held(x, x.join(x.map(0, 2, 100), 1, 2)), "|");
             });
         holds(8, NO_NODE, () -> {

@@ -24,11 +24,22 @@ final class RunBoundaries extends Sentences {
         share();
     }
 
+    /** The attempts of the latest run, which has ended when the last of them has. */
+    private static String told(Taskgraphic x) {
+        int latest = 0;
+        int attempts = x.attempts();
+        for (int attempt = 0; attempt < attempts; attempt++) {
+            latest = Math.max(latest, x.endOf(attempt));
+        }
+        due("ticks()", x.ticks(), latest);
+        return attempts(x);
+    }
+
     /** Works a node out by one worker, so that the tasks come one after the other. */
     private static String alone(Taskgraphic x, int node) {
         x.setWorkers(1);
         x.run(node);
-        return attempts(x);
+        return told(x);
     }
 
     /** As many tasks as workers of these slownesses, each of the work 1. */
@@ -38,7 +49,7 @@ final class RunBoundaries extends Sentences {
         x.setWorkers(slowness.length);
         slowness(x, slowness);
         x.run(0);
-        return attempts(x);
+        return told(x);
     }
 
     /** A source without rows, and 13 groups, each of the one before. */
@@ -255,6 +266,13 @@ final class RunBoundaries extends Sentences {
             due("the second without rows", alone(x, x.join(0, 3, 1)), "3.0 w0 0-1, 4.0 w0 1-4, 4.1 w0 4-6");
             due("the first without rows", alone(x, x.join(3, 1, 1)), "1.0 w0 0-5, 5.0 w0 5-10");
             due("of the same", alone(x, x.join(1, 1, 1)), "1.0 w0 0-5, 6.0 w0 5-14");
+            x.setRoom(100);
+            x.mark(0, true);
+            x.run(0);
+            due("the first in the cache", alone(x, 2), "1.0 w0 0-5, 2.0 w0 5-12, 2.1 w0 12-18");
+            x.mark(1, true);
+            x.run(1);
+            due("both in the cache", alone(x, 2), "2.0 w0 0-7, 2.1 w0 7-13");
         });
         holds(27, "of another join the rows of both inputs whose keys have the share i.", () -> {
             Taskgraphic x = new Taskgraphic();
@@ -263,6 +281,10 @@ final class RunBoundaries extends Sentences {
             due("2 and 3, and 1 and 2 rows", alone(x, x.join(0, 1, 2)),
                 "0.0 w0 0-3, 0.1 w0 3-5, 1.0 w0 5-11, 2.0 w0 11-17, 2.1 w0 17-21");
             due("of the same", alone(x, x.join(1, 1, 2)), "1.0 w0 0-6, 3.0 w0 6-13, 3.1 w0 13-18");
+            x.setRoom(100);
+            x.mark(0, true);
+            x.run(0);
+            due("the first in the cache", alone(x, 2), "1.0 w0 0-6, 2.0 w0 6-12, 2.1 w0 12-16");
             x.source(1);
             due("the first without rows", alone(x, x.join(4, 1, 4)),
                 "1.0 w0 0-6, 4.0 w0 6-7, 5.0 w0 7-10, 5.1 w0 10-12, 5.2 w0 12-14, 5.3 w0 14-16");
@@ -296,7 +318,7 @@ final class RunBoundaries extends Sentences {
             sourceOf(x, 2, 3);
             x.group(0, 0, 2);
             x.run(1);
-            due("attempts", attempts(x), "0.0 w0 0-3, 0.1 w1 0-2, 1.0 w0 3-6, 1.1 w1 3-5");
+            due("attempts", told(x), "0.0 w0 0-3, 0.1 w1 0-2, 1.0 w0 3-6, 1.1 w1 3-5");
         });
         holds(27, "To work a node out, stages are run one after the other;", () -> {
             Taskgraphic x = new Taskgraphic();
@@ -304,7 +326,7 @@ final class RunBoundaries extends Sentences {
             x.source(1);
             x.union(x.group(0, 0, 1), x.group(1, 0, 1));
             x.run(4);
-            due("two stages that need nothing of one another", attempts(x),
+            due("two stages that need nothing of one another", told(x),
                 "0.0 w0 0-3, 1.0 w0 3-4, 4.0 w0 4-7, 4.1 w1 4-5");
         });
         holds(27, "A stage has ended when all of its tasks have.", () -> {
@@ -388,7 +410,7 @@ final class RunBoundaries extends Sentences {
                 due("two tasks", x.attempts(), 2);
                 x.setSlowness(1, 9);
                 x.run(0);
-                due("two tasks and a copy", attempts(x), "0.0 w0 0-1, 0.1 w1 0-2, 0.1 w0 1-2*");
+                due("two tasks and a copy", told(x), "0.0 w0 0-1, 0.1 w1 0-2, 0.1 w0 1-2*");
                 x.mark(0, true);
                 x.run(0);
                 x.run(0);
@@ -452,7 +474,7 @@ final class RunBoundaries extends Sentences {
         x.setWorkers(4);
         slowness(x, slownessOfTheFirst, 1, 9, 9);
         x.run(1);
-        return attempts(x);
+        return told(x);
     }
 
     private static void whenCopiesMayBeTaken() {
@@ -471,6 +493,12 @@ final class RunBoundaries extends Sentences {
             due("a tick earlier", together(2, 1, 3), "0.0 w0 0-1, 0.1 w1 0-2, 0.1 w0 1-2*");
             due("at the same tick, more slowly", together(2, 4, 8), "0.0 w0 0-4, 0.1 w1 0-8");
             due("a tick earlier, more slowly", together(2, 4, 9), "0.0 w0 0-4, 0.1 w1 0-8, 0.1 w0 4-8*");
+            Taskgraphic x = new Taskgraphic();
+            sourceOf(x, 2, 12);
+            x.setMemory(0);
+            slowness(x, 5, 9);
+            x.run(0);
+            due("13 ticks later, for 52 ticks", told(x), "0.0 w0 0-65, 0.1 w1 0-117");
         });
     }
 
@@ -478,6 +506,15 @@ final class RunBoundaries extends Sentences {
         holds(30, "without a copy so far", () -> {
             due("another worker would be faster", together(2, 2, 9, 1), "0.0 w0 0-2, 0.1 w1 0-4, 0.1 w0 2-4*");
             due("a third worker", together(2, 1, 9, 1), "0.0 w0 0-1, 0.1 w1 0-2, 0.1 w0 1-2*");
+            Taskgraphic x = new Taskgraphic();
+            sourceOf(x, 3, 12);
+            x.source(2);
+            slowness(x, 9, 9);
+            x.run(0);
+            x.setWorkers(3);
+            slowness(x, 2, 9, 1);
+            x.run(1);
+            due("no third task, as the run before had one", told(x), "1.0 w0 0-2, 1.1 w1 0-4, 1.1 w0 2-4*");
         });
         holds(30, "it looks at the one that would end the latest, of several at the lowest partition;", () -> {
             due("two that end the latest", together(4, 1, 9, 9, 1),
@@ -487,12 +524,30 @@ final class RunBoundaries extends Sentences {
             due("the lesser partition ends the latest", together(4, 1, 9, 8, 1),
                 "0.0 w0 0-1, 0.1 w1 0-2, 0.2 w2 0-2, 0.3 w3 0-1, 0.1 w0 1-2*, 0.2 w3 1-2*");
         });
+        holds(30, "A stage has ended when all of its tasks have.", () ->
+            due("8 tasks, 3 of them with copies", copiesOfThree(), "3.0 w0 0-2, 3.1 w1 0-20, 3.2 w2 0-30, 3.3 w3 0-40,"
+                + " 3.4 w0 2-4, 3.5 w0 4-6, 3.6 w0 6-8, 3.7 w0 8-10, 3.1 w0 10-20*, 3.2 w0 20-30*, 3.3 w0 30-40*"));
         holds(30, "At each tick of a stage", () -> {
             Taskgraphic x = withCopies();
             // At 4 the worker 0 refuses the latest task, and 1 takes it; so at 5 the worker 0 looks at another one.
-            due("attempts", attempts(x),
+            due("attempts", told(x),
                 "1.0 w0 0-4, 1.1 w1 0-4, 1.2 w2 0-10, 1.3 w3 0-13, 1.2 w1 4-10*, 1.3 w0 5-13*");
         });
+    }
+
+    /** A union of a group of 0, 4, 4 and 4 rows, with its source in the cache, and of a source without rows. */
+    private static String copiesOfThree() {
+        Taskgraphic x = new Taskgraphic();
+        sourceOfKeys(x, 1, 1, 1, 1, 1, 2, 2, 2, 2, 3, 3, 3, 3);
+        x.source(4);
+        x.union(x.group(0, 0, 4), 1);
+        x.setRoom(12);
+        x.mark(0, true);
+        x.run(0);
+        x.setWorkers(4);
+        slowness(x, 2, 9, 9, 9);
+        x.run(3);
+        return told(x);
     }
 
     /** A group of 0, 3, 5 and 1 rows, with its source in the cache, on workers of unlike slowness. */
@@ -580,6 +635,7 @@ final class RunBoundaries extends Sentences {
         });
         holds(37, "the sum of the ticks of all attempts, as a float, divided by the ticks of the run"
             + " times the number of workers that it had, as a float.", () -> {
+                due("of 1 task and 1 worker", shareOf(1, x -> x.setWorkers(1)), 1.0f);
                 due("of 1 task and 3 workers", shareOf(1, x -> x.setWorkers(3)), 0.33333334f);
                 due("of 2 tasks and 3 workers", shareOf(2, x -> x.setWorkers(3)), 0.6666667f);
                 due("of 3 tasks and 2 workers", shareOf(3, x -> x.setWorkers(2)), 0.75f);

@@ -342,6 +342,11 @@ final class SettingBoundaries extends Sentences {
                 due("what lies behind one in the cache", cached(x), "0 2 3 5");
                 x.run(1);
                 due("one that is marked later", cached(x), "0 1 2 3 5");
+                Taskgraphic y = new Taskgraphic();
+                y.mark(y.source(1), true);
+                y.mark(y.source(1), true);
+                y.run(1);
+                due("of two sources, the one that was worked out", cached(y), "1");
             });
         holds(24, "(The output itself is not in the cache.)", () -> {
             Taskgraphic x = new Taskgraphic();
@@ -421,6 +426,11 @@ final class SettingBoundaries extends Sentences {
             z.mark(0, true);
             z.setRoom(8);
             due("used by no run", cached(z), "1 2");
+            Taskgraphic asked = afterRunsOf(9, 4, 2, 3);
+            asked.stages(asked.group(0, 0, 1));
+            asked.run(1);
+            asked.setRoom(8);
+            due("asked for stages before a run", cached(asked), "1 2");
             Taskgraphic none = afterRunsOf(2, 0, 2);
             none.run(none.map(0, 0, 1));
             none.setRoom(1);
@@ -434,7 +444,16 @@ final class SettingBoundaries extends Sentences {
             Taskgraphic y = afterRunsOf(9, 4, 2, 3);
             y.run(y.union(1, 1));
             y.setRoom(5);
-            due("a union of 1", cached(y), "1 2");
+            due("a union of 1, room for 5", cached(y), "1 2");
+            y.setRoom(4);
+            due("a union of 1, room for 4", cached(y), "1");
+            Taskgraphic z = afterRunsOf(9, 4, 2, 3);
+            z.run(1);
+            z.run(0);
+            z.setRoom(6);
+            due("1 and then 0, room for 6", cached(z), "0 1");
+            z.setRoom(5);
+            due("1 and then 0, room for 5", cached(z), "0");
         });
         holds(24, "of them a greater number later than a lesser one", () -> {
             Taskgraphic x = afterRunsOf(9, 4, 2, 3);
