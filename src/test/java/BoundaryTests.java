@@ -8,7 +8,7 @@ public final class BoundaryTests extends Sentences {
         HoldingBoundaries.all();
         SettingBoundaries.all();
         RunBoundaries.all();
-        demandTests();
+        demandTestsOfBoundaries();
         end("all boundary cases hold");
     }
 }

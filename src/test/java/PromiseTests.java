@@ -1,5 +1,8 @@
-/** The promises of the document one by one, with answers that were reckoned by hand. */
-public final class PromiseTests extends Testing {
+/**
+ * The promises of the document one by one, each under what it says that its call does and returns,
+ * with answers that were reckoned by hand.
+ */
+public final class PromiseTests extends Sentences {
     // ---- nodes
 
     private static void aNewObject() {
@@ -920,27 +923,99 @@ public final class PromiseTests extends Testing {
         due("share() before a run", new Taskgraphic().share(), 0.0f);
     }
 
-    private static void all() {
-        Runnable[] tests = {
-            PromiseTests::aNewObject, PromiseTests::source, PromiseTests::put, PromiseTests::map,
-            PromiseTests::filter, PromiseTests::union, PromiseTests::group, PromiseTests::join,
-            PromiseTests::nodes, PromiseTests::partitions, PromiseTests::rowsIn, PromiseTests::rows,
-            PromiseTests::keyAt, PromiseTests::valueAt, PromiseTests::isBroad, PromiseTests::digest,
-            PromiseTests::digestInPlace, PromiseTests::setWorkers, PromiseTests::setSlowness,
-            PromiseTests::setMemory, PromiseTests::setLimit, PromiseTests::setRoom, PromiseTests::mark,
-            PromiseTests::isCached, PromiseTests::stages, PromiseTests::outputOf, PromiseTests::run,
-            PromiseTests::ticks, PromiseTests::spilled, PromiseTests::attemptsOfRuns, PromiseTests::nodeOf,
-            PromiseTests::partitionOf, PromiseTests::workerOf, PromiseTests::startOf, PromiseTests::endOf,
-            PromiseTests::isCopy, PromiseTests::share,
-        };
-        for (int promise = 1; promise <= tests.length; promise++) {
-            testing("promise " + promise, tests[promise - 1]);
-        }
-        due("promises tested", tests.length, 37);
+    private static void promisesOfNodes() {
+        holds(1, PromiseTests::aNewObject, "A runner without nodes.");
+        holds(2, PromiseTests::source, "Makes a source without rows.", "Returns its number.");
+        holds(3, PromiseTests::put, "Puts a row into a source.", "Returns how many rows it has then.");
+        holds(4, PromiseTests::map, "Makes a map.", "Returns its number.");
+        holds(5, PromiseTests::filter, "Makes a filter.", "Returns its number.");
+        holds(6, PromiseTests::union, "Makes a union.", "Returns its number.");
+        holds(7, PromiseTests::group, "Makes a group.", "Returns its number.");
+        holds(8, PromiseTests::join, "Makes a join.", "Returns its number.");
+        holds(9, PromiseTests::nodes, "Returns how many nodes there are.");
+    }
+
+    private static void promisesOfWhatNodesHold() {
+        holds(10, PromiseTests::partitions, "Returns how many partitions a node has.", "Returns 1 to 8.");
+        holds(11, PromiseTests::rowsIn, "Returns how many rows a partition has.", "Returns how many.");
+        holds(12, PromiseTests::rows, "Returns how many rows a node has.", "Returns how many.");
+        holds(13, PromiseTests::keyAt, "Returns the key of a row.", "Returns the key.");
+        holds(14, PromiseTests::valueAt, "Returns the value of a row.", "Returns the value.");
+        holds(15, PromiseTests::isBroad, "Tells whether a join is broad.", "Returns whether it is.");
+        holds(16, PromiseTests::digest,
+            "Returns the digest of a node: the sum, over all rows, of the square of 31 times the "
+                + "key plus the value.",
+            "Returns the sum.");
+        holds(17, PromiseTests::digestInPlace,
+            "Returns the same, found in one place: rows in one row without any partitions.",
+            "Returns the sum.");
+    }
+
+    private static void promisesOfSettings() {
+        holds(18, PromiseTests::setWorkers, "Sets the number of workers.", "Returns the number before.");
+        holds(19, PromiseTests::setSlowness, "Sets the slowness of a worker.", "Returns the slowness before.");
+        holds(20, PromiseTests::setMemory, "Sets the memory.", "Returns the memory before.");
+        holds(21, PromiseTests::setLimit,
+            "Sets the limit up to which joins are broad; the cache is emptied.",
+            "Returns the limit before.");
+        holds(22, PromiseTests::setRoom,
+            "Sets the room of the cache. Until its rows have room, the nodes leave it that were "
+                + "used the longest time ago.",
+            "Returns how many nodes leave.");
+        holds(23, PromiseTests::mark,
+            "Marks a node for the cache, or takes the mark away; what is in the cache stays there.",
+            "Returns whether it was.");
+        holds(24, PromiseTests::isCached, "Tells whether a node is in the cache.", "Returns whether it is.");
+    }
+
+    private static void promisesOfRuns() {
+        holds(25, PromiseTests::stages,
+            "Returns how many stages it takes to work a node out now.",
+            "Returns how many; 0 if it is in the cache.");
+        holds(26, PromiseTests::outputOf,
+            "Returns the output of one of the stages that it takes to work a node out now.",
+            "Returns the output.");
+        holds(27, PromiseTests::run,
+            "Works a node out.",
+            "Returns the tick at which the last stage has ended; 0 if there is no stage.");
+        holds(28, PromiseTests::ticks,
+            "Returns the tick at which the latest run has ended; 0 if there was none.");
+        holds(29, PromiseTests::spilled,
+            "Returns how many rows were spilled in the latest run, copies not counted.");
+        holds(30, PromiseTests::attemptsOfRuns,
+            "Returns how many attempts there were in the latest run: tasks, and copies of tasks. "
+                + "They are numbered from 0 as they were taken.");
+        holds(31, PromiseTests::nodeOf,
+            "Returns the output of the stage of an attempt of the latest run.",
+            "Returns the node.");
+        holds(32, PromiseTests::partitionOf,
+            "Returns the partition of an attempt of the latest run.",
+            "Returns the partition.");
+        holds(33, PromiseTests::workerOf,
+            "Returns the worker of an attempt of the latest run.",
+            "Returns the worker.");
+        holds(34, PromiseTests::startOf,
+            "Returns the tick at which an attempt of the latest run was taken.",
+            "Returns the tick.");
+        holds(35, PromiseTests::endOf,
+            "Returns the tick at which the task of an attempt of the latest run ended.",
+            "Returns the tick.");
+        holds(36, PromiseTests::isCopy,
+            "Tells whether an attempt of the latest run was a copy.",
+            "Returns whether it was.");
+        holds(37, PromiseTests::share,
+            "Returns the share of time for which the workers of the latest run had attempts: the "
+                + "sum of the ticks of all attempts, as a float, divided by the ticks of the run times "
+                + "the number of workers that it had, as a float.",
+            "Returns the share; 0.0 if the run took no ticks, or there was none.");
     }
 
     public static void main(String[] args) {
-        all();
+        promisesOfNodes();
+        promisesOfWhatNodesHold();
+        promisesOfSettings();
+        promisesOfRuns();
+        demandTestsOfPurposes();
         end("all promises hold");
     }
 }

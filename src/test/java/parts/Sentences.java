@@ -4,6 +4,7 @@ import java.nio.file.Files;
 import java.nio.file.Path;
 import java.util.ArrayList;
 import java.util.List;
+import java.util.function.Function;
 import java.util.function.IntConsumer;
 
 /**
@@ -39,14 +40,22 @@ abstract class Sentences extends Testing {
     }
 
     static void holds(int promise, String sentence, Runnable test) {
+        holds(promise, test, sentence);
+    }
+
+    static void holds(int promise, Runnable test, String... sentences) {
         int before = wrong;
-        testing("promise " + promise + ", \"" + sentence + "\"", () -> {
-            String both = PARTS.get(0) + "\n" + PARTS.get(promise);
-            due("whether the document says so", both.replaceAll("\\s+", " ").contains(sentence), true);
+        testing("promise " + promise + ", \"" + String.join(" ", sentences) + "\"", () -> {
+            String both = (PARTS.get(0) + "\n" + PARTS.get(promise)).replaceAll("\\s+", " ");
+            for (String sentence : sentences) {
+                due("whether the document says: " + sentence, both.contains(sentence), true);
+            }
             test.run();
         });
         if (wrong == before) {
-            HELD.add(new Held(promise, sentence));
+            for (String sentence : sentences) {
+                HELD.add(new Held(promise, sentence));
+            }
         }
     }
 
@@ -70,20 +79,40 @@ abstract class Sentences extends Testing {
     }
 
     /** Demands tests of what may be refused or has a limit: in each promise, and in the terms. */
-    static void demandTests() {
+    static void demandTestsOfBoundaries() {
+        demandTests(Sentences::boundariesOf);
+        for (String sentence : sentencesOfTerms()) {
+            boolean tested = HELD.stream().anyMatch(h -> h.sentence.contains(sentence) || sentence.contains(h.sentence));
+            due("\"" + sentence + "\"", tested, true);
+        }
+    }
+
+    /** Demands tests of what each promise says that its call does, and what it returns. */
+    static void demandTestsOfPurposes() {
+        demandTests(Sentences::purposesOf);
+    }
+
+    private static void demandTests(Function<String, List<String>> sentences) {
         where = "sentences without a test that holds";
         due("promises in the document", PARTS.size() - 1, PROMISES);
         for (int promise = 1; promise < PARTS.size(); promise++) {
-            for (String sentence : boundariesOf(PARTS.get(promise))) {
+            for (String sentence : sentences.apply(PARTS.get(promise))) {
                 int number = promise;
                 boolean tested = HELD.stream().anyMatch(h -> h.promise == number && h.sentence.equals(sentence));
                 due("promise " + promise + ", \"" + sentence + "\"", tested, true);
             }
         }
-        for (String sentence : sentencesOfTerms()) {
-            boolean tested = HELD.stream().anyMatch(h -> h.sentence.contains(sentence) || sentence.contains(h.sentence));
-            due("\"" + sentence + "\"", tested, true);
+    }
+
+    private static List<String> purposesOf(String promise) {
+        List<String> all = new ArrayList<>();
+        for (String line : promise.split("\n")) {
+            boolean shown = line.matches("(\\S+ )?\\w+\\(.*?\\).*?: .*");
+            if (shown || line.startsWith("Returns ")) {
+                all.add(shown ? line.replaceFirst("^(\\S+ )?\\w+\\(.*?\\).*?: ", "") : line);
+            }
         }
+        return all;
     }
 
     private static List<String> boundariesOf(String promise) {
